@@ -644,6 +644,25 @@ public final class GoodbyeAll {
             return heard == others ? open & here : heard;
         }
 
+        /**
+         * How many rooms must be entered at least, from that minute on, to tell all that were not told:
+         * each in which somebody stays for good; one for its hosts once more, unless it is the last of the others'.
+         */
+        int roomsAhead(int minute, int told) {
+            int open = mustBits & ~told;
+            int rooms = 0;
+            int shared = 0;
+            for (int room = 0; room < ROOMS; room++) {
+                // Nobody changes twice: whoever is there now and in the last minute stays.
+                int staying = whoIsIn(room, minute) & present[room][MINUTES - 1] & open;
+                boolean others = (staying & ~hostBits) != 0;
+                boolean hosts = (staying & hostBits) != 0;
+                rooms += (others ? 1 : 0) + (hosts ? 1 : 0);
+                shared = others && hosts ? 1 : shared;
+            }
+            return rooms - shared;
+        }
+
         boolean hasHost(int bits) {
             return (bits & hostBits) != 0;
         }
@@ -1089,7 +1108,7 @@ public final class GoodbyeAll {
                 keepRow(home, length);
                 return;
             }
-            if (length >= MOST) {
+            if (house.roomsAhead(minute, told) > MOST - length) {
                 return;
             }
             for (int next = 0; next < ROOMS; next++) {

@@ -6,6 +6,7 @@ public final class DeedTest {
         image();
         undo();
         forty();
+        fortyOfAll();
         Due.close();
     }
 
@@ -156,5 +157,37 @@ public final class DeedTest {
         }
         Due.be("as it was at last", x.of(0, 2), 45);
         Due.be("no more", x.redo(), -5);
+    }
+
+    /** Forty-three changes of all sorts, back and forth: what is kept of each is its own. */
+    private static void fortyOfAll() {
+        GoodbyeAll x = new GoodbyeAll();
+        int[] now = {0, 0, 50, 2, 1, 0, 11, 1};
+        for (int g = 0; g < 4; g++) {
+            x.guest(0, 50);
+        }
+        int[][] facts = {now.clone(), now.clone(), now.clone(), now.clone()};
+        int[][] changes = new int[43][];
+        for (int i = 0; i < changes.length; i++) {
+            int number = i * 3 % 4;
+            int what = i * 5 % 8;
+            int v = what == 4 || what == 5 ? 1 - facts[number][what] : facts[number][what] % 4 + 1;
+            changes[i] = new int[] {number, what, facts[number][what], v};
+            Due.be("change " + i, x.mend(number, what, v), facts[number][what]);
+            facts[number][what] = v;
+        }
+        for (int i = 42; i >= 3; i--) {
+            Due.be("undo", x.undo(), i - 3);
+            Due.be("undone " + i, x.of(changes[i][0], changes[i][1]), changes[i][2]);
+        }
+        for (int i = 3; i < 43; i++) {
+            Due.be("redo", x.redo(), 42 - i);
+            Due.be("done again " + i, x.of(changes[i][0], changes[i][1]), changes[i][3]);
+        }
+        for (int number = 0; number < 4; number++) {
+            for (int what = 0; what < 8; what++) {
+                Due.be("at last", x.of(number, what), facts[number][what]);
+            }
+        }
     }
 }

@@ -164,6 +164,9 @@ public final class RoundsTest {
         x.mend(1, 2, 99);
         x.mend(2, 7, 9);
         Due.be("the WAY counts", x.slip(390, 0), 8 + 4 + 2);
+        GoodbyeAll late = new GoodbyeAll();
+        late.guest(4, 99);
+        Due.be("the very last minute", late.slip(0, 1), 99);
         Due.be("rm 500", x.slip(500, 0), -1);
         Due.be("rm -1", x.slip(-1, 1), -1);
         Due.be("what 2", x.slip(0, 2), -1);
