@@ -47,6 +47,7 @@ public final class ShelvesTest {
             Due.be("the first", x.element(0, 0), 0);
             Due.be("the last", x.element(0, 59), 0);
             Due.be("behind", x.element(0, 60), Long.MIN_VALUE);
+            x.put(0, 0, -1);
             x.put(0, 59, -1);
         }
         Due.be("an empty one", x.row(0, 0, 0), 1);
