@@ -245,7 +245,9 @@ public final class GoodbyeAll {
         int lifted = 0;
         int many = leaving.size();
         for (int i = 0; i < many; i++) {
-            int place = pile.lowest(leaving.smallAt(i), taken);
+            int guest = leaving.smallAt(i);
+            // Who has not come does not leave, whatever lies in the pile.
+            int place = house.isGuest(guest) ? pile.lowest(guest, taken) : -1;
             if (place >= 0) {
                 lifted += pile.above(place, taken);
                 taken |= 1L << place;
@@ -1299,7 +1301,9 @@ public final class GoodbyeAll {
 
         int firstMinuteAllKnow(int guest) {
             int known = 1 << guest;
-            for (int minute = 0; minute <= LAST_MINUTE; minute++) {
+            // Nobody changes rooms beyond minute 99: in each minute from there on one more knows, or never again one does.
+            int latest = LAST_MINUTE + House.MOST_GUESTS;
+            for (int minute = 0; minute <= latest; minute++) {
                 if (minute > 0) {
                     known = spread(known, minute);
                 }

@@ -189,6 +189,24 @@ final class Model {
         return new int[] {home, must(own[0] | own[1])};
     }
 
+    /** How many coats lie above a guest's; -2: it has none in the pile. */
+    int coats(List<Integer> pile, int guest) {
+        int place = pile.indexOf(guest);
+        return place < 0 ? -2 : pile.size() - 1 - place;
+    }
+
+    int order(List<Integer> coats, List<Integer> leaving) {
+        List<Integer> pile = new ArrayList<>(coats);
+        int lifted = 0;
+        for (Integer guest : leaving) {
+            if (guest >= 0 && guest < guests.size() && pile.contains(guest)) {
+                lifted += coats(pile, guest);
+                pile.remove(guest);
+            }
+        }
+        return lifted;
+    }
+
     /** Waves, who is left. */
     int[] end(int first) {
         int gone = first;
@@ -243,7 +261,8 @@ final class Model {
     }
 
     int firstAllKnow(int guest) {
-        for (int minutes = 0; minutes <= 99; minutes++) {
+        // Far beyond minute 99: whoever does not know by then never comes to know.
+        for (int minutes = 0; minutes <= 150; minutes++) {
             if (knows(guest, minutes) == (1 << guests.size()) - 1) {
                 return minutes;
             }

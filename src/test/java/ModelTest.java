@@ -1,3 +1,5 @@
+import java.util.ArrayList;
+import java.util.List;
 import java.util.Random;
 
 /** Many houses, each asked all the questions whose answers the model works out in another way. */
@@ -27,6 +29,9 @@ public final class ModelTest {
             renew(both);
             party(both);
             draws(both);
+            renew(both);
+            coats(both);
+            allKnow(i);
         }
         Due.close();
     }
@@ -193,6 +198,47 @@ public final class ModelTest {
         }
         Due.be(both.told + "yawn", both.x.yawn(), both.model.yawn());
         Due.be(both.told + "clear", both.x.clear(), both.model.clear());
+    }
+
+    /** Few rooms and late changes: who knows at last is often so late that it is beyond minute 99. */
+    private static void allKnow(int number) {
+        Both both = new Both();
+        both.told = "late house " + number + ": ";
+        int many = 1 + upTo(9);
+        for (int g = 0; g < many; g++) {
+            int one = upTo(1);
+            int other = upTo(9) == 0 ? 1 : 0;
+            both.model.guests.add(new int[] {one, other, upTo(1) == 0 ? 99 - upTo(9) : upTo(9), 2, 1, 0, 11});
+        }
+        renew(both);
+        for (int g = 0; g < many; g++) {
+            Due.be(both.told + "all know from " + g, both.x.knows(g, -1), both.model.firstAllKnow(g));
+            Due.be(both.told + "behind 99 from " + g, both.x.knows(g, 99), both.model.knows(g, 99));
+        }
+    }
+
+    /** Piles and orders, also with bytes that are no guest's numbers. */
+    private static void coats(Both both) {
+        int many = both.model.guests.size();
+        for (int k = 0; k < 4; k++) {
+            List<Integer> pile = numbers(upTo(1) == 0 ? 60 : 12);
+            List<Integer> leaving = numbers(15);
+            Due.bytes(both.x, 4, pile.stream().mapToInt(n -> n).toArray());
+            Due.bytes(both.x, 5, leaving.stream().mapToInt(n -> n).toArray());
+            Due.be(both.told + "order", both.x.order(45), both.model.order(pile, leaving));
+            for (int g = 0; g < many; g++) {
+                Due.be(both.told + "coats " + g, both.x.coats(4, g), both.model.coats(pile, g));
+            }
+        }
+    }
+
+    private static List<Integer> numbers(int most) {
+        List<Integer> numbers = new ArrayList<>();
+        int many = upTo(most);
+        for (int i = 0; i < many; i++) {
+            numbers.add(upTo(12) - 1);
+        }
+        return numbers;
     }
 
     private static void draws(Both both) {

@@ -3,9 +3,11 @@ public final class PartyTest {
     public static void main(String[] args) {
         coats();
         order();
+        orderOfNobody();
         end();
         clear();
         knows();
+        knowsBeyond99();
         Due.close();
     }
 
@@ -60,6 +62,25 @@ public final class PartyTest {
         Due.be("no order", x.order(5), 0);
         GoodbyeAll y = withGuests(5);
         Due.be("nothing there", y.order(0), -11);
+    }
+
+    /** Bytes of the order that are no guest's number lift nothing, though such a byte lies in the pile. */
+    private static void orderOfNobody() {
+        GoodbyeAll none = new GoodbyeAll();
+        Due.bytes(none, 0, 0, 0, 0);
+        Due.be("nobody has come", none.order(0), 0);
+        GoodbyeAll x = withGuests(2);
+        Due.bytes(x, 0, 0, 1, 2, -1, 9);
+        Due.bytes(x, 1, 2, -1, 9, 10, 127, -128);
+        Due.be("none of the order has come", x.order(1), 0);
+        Due.bytes(x, 2, 2, 0, -1, 1, 2);
+        Due.be("the others leave, and nobody's coats stay in the pile", x.order(2), 4 + 3);
+        Due.bytes(x, 3, 0, 2, 0);
+        Due.be("its one coat lies below four", x.order(3), 4);
+        Due.be("coats() takes no such number, too", x.coats(0, 2), -1);
+        Due.be("guest 2 comes", x.guest(0, 0), 2);
+        Due.be("now it leaves, too", x.order(2), 2 + 3 + 2);
+        Due.be("on the pile's own order", x.order(0), 4 + 3 + 2);
     }
 
     private static void end() {
@@ -124,5 +145,30 @@ public final class PartyTest {
         late.guest(10, 99);
         Due.be("in minute 99", late.knows(0, -1), 99);
         Due.be("not in minute 98", late.knows(0, 98), 1);
+    }
+
+    private static void knowsBeyond99() {
+        GoodbyeAll x = new GoodbyeAll();
+        x.guest(0, 0);
+        x.guest(20, 99);
+        Due.be("in minute 99", x.knows(0, -1), 99);
+        for (int g = 2; g < 10; g++) {
+            x.guest(0, 0);
+            Due.be("a chain of " + (g + 1), x.knows(0, -1), 98 + g);
+        }
+        Due.be("behind 99: two", x.knows(0, 99), 3);
+        Due.be("k 100", x.knows(0, 100), -1);
+        Due.be("from the other end", x.knows(9, -1), 100);
+        Due.be("from the one who comes late", x.knows(1, -1), 106);
+        Due.be("from the middle", x.knows(5, -1), 100);
+        x.mend(9, 1, 3);
+        x.mend(9, 2, 99);
+        Due.be("the last one has gone by then", x.knows(0, -1), -2);
+        x.mend(9, 1, 0);
+        Due.be("and stays", x.knows(0, -1), 107);
+        x.mend(6, 0, 4);
+        x.mend(6, 1, 4);
+        Due.be("the chain is broken", x.knows(0, -1), -2);
+        Due.be("from behind the break", x.knows(9, -1), -2);
     }
 }
