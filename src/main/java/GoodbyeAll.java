@@ -1301,7 +1301,7 @@ public final class GoodbyeAll {
 
         int firstMinuteAllKnow(int guest) {
             int known = 1 << guest;
-            // Nobody changes rooms beyond minute 99: in each minute from there on one more knows, or never again one does.
+            // Nobody changes rooms beyond minute 99: from there on each minute tells one more, or none ever does.
             int latest = LAST_MINUTE + House.MOST_GUESTS;
             for (int minute = 0; minute <= latest; minute++) {
                 if (minute > 0) {
