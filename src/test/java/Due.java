@@ -2,8 +2,18 @@
 final class Due {
     private static int asked = 0;
     private static int wrong = 0;
+    private static String heading = "";
 
     private Due() {
+    }
+
+    /** What the answers from here on are asked about. */
+    static void about(String what) {
+        heading = what + ": ";
+    }
+
+    static int wrong() {
+        return wrong;
     }
 
     static void be(String call, long got, long want) {
@@ -11,7 +21,7 @@ final class Due {
         if (got != want) {
             wrong++;
             if (wrong <= 40) {
-                System.out.println(call + " answered " + got + ", due is " + want);
+                System.out.println(heading + call + " answered " + got + ", due is " + want);
             }
         }
     }
