@@ -3,7 +3,7 @@ import java.util.List;
 
 /** Promises 32 to 34, and of 41 what is told of bodies: acts that come from above, by classes that Java itself has. */
 public final class BodiesTest {
-    private static final List<Integer> RAN = new ArrayList<>();
+    static final List<Integer> RAN = new ArrayList<>();
 
     interface Says {
         int n();
@@ -139,7 +139,7 @@ public final class BodiesTest {
         }
     }
 
-    private static Parting made(int kind, int n) {
+    static Parting made(int kind, int n) {
         switch (kind) {
             case 0: return new Parting(n);
             case 1: return new Begun(n);
@@ -152,7 +152,7 @@ public final class BodiesTest {
         }
     }
 
-    private static int act(Parting body, int act, int x) {
+    static int act(Parting body, int act, int x) {
         RAN.clear();
         switch (act) {
             case 0: return body.says(x);

@@ -59,8 +59,8 @@ public final class FaultsTest {
         return text.append("1)))))))").toString();
     }
 
-    /** Reads on as long as a text may go on. */
-    private static final class Reader {
+    /** Reads on as long as a text may go on; -1: all of it, and it may end there. */
+    static final class Reader {
         /** The signs that are open: ( and, ahead of an operand that has not ended, ! and -. */
         private final Deque<Character> open = new ArrayDeque<>();
         /** Whether the comparing of the innermost ( has had its sign; one for the line itself. */

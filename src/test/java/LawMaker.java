@@ -72,7 +72,7 @@ final class LawMaker {
         return new Made(left.text + sign + right.text, v -> worth(left.worth.of(v), sign, right.worth.of(v)));
     }
 
-    private static int worth(int a, char sign, int b) {
+    static int worth(int a, char sign, int b) {
         switch (sign) {
             case '|': return a != 0 | b != 0 ? 1 : 0;
             case '&': return a != 0 & b != 0 ? 1 : 0;
